@@ -460,7 +460,7 @@ public final class PulseRent {
 
         private static final Word[] ALL = values();
 
-        private final long name;
+        private final long code;
         private final boolean reserved;
 
         Word(String text, boolean reserved) {
@@ -468,7 +468,7 @@ public final class PulseRent {
             for (int i = 0; i < text.length(); i++) {
                 packed = longer(packed, text.charAt(i));
             }
-            this.name = packed;
+            this.code = packed;
             this.reserved = reserved;
         }
 
@@ -477,9 +477,9 @@ public final class PulseRent {
             return packed * 32 + (letter - 'a' + 1);
         }
 
-        static Word named(long name) {
+        static Word coded(long code) {
             for (int i = 0; i < ALL.length; i++) {
-                if (ALL[i].name == name) {
+                if (ALL[i].code == code) {
                     return ALL[i];
                 }
             }
@@ -559,7 +559,7 @@ public final class PulseRent {
                 at++;
             }
             kind = at - place <= WORD_MOST ? WORD : NO_TOKEN;
-            word = kind == WORD ? Word.named(name) : null;
+            word = kind == WORD ? Word.coded(name) : null;
         }
 
         private void scanNumber() {

@@ -131,6 +131,7 @@ public final class DaysTest {
         due.is("next(0)", y.next(0), 5);
         y.sample(5, 60);
         due.is("days(0)", y.days(0), 1);
+        due.is("did(0, 5)", y.did(0, 5), 0);
         due.is("none parts one", y.next(0), NONE);
         due.is("eve's DAYS", y.days(4), 64);
         due.is("nor these", y.next(4), NONE);
@@ -142,6 +143,21 @@ public final class DaysTest {
         // ann ahead of minute 2 did nothing, and a climb or fright ahead of 1 would be seen, ahead of 0 too
         due.is("days(0)", z.days(0), 1);
         due.is("eve climbed nowhere", z.days(4), 64);
+        // dot had 20 in minute 1 by a climb, by a fright, or by two frights: the last is seen in minute 0 alone
+        PulseRent w = Due.housed(HOUSE);
+        int[] beats = {0, 110, 100, 95, 92, 91};
+        for (int minute = 1; minute < 6; minute++) {
+            w.sample(minute, beats[minute]);
+        }
+        due.is("days(3)", w.days(3), 3);
+        due.is("next(3)", w.next(3), 0);
+        due.is("next(3) again", w.next(3), 0);
+        due.is("did(3, 0)", w.did(3, 0), 0);
+        due.is("did(3, 1)", w.did(3, 1), 1);
+        w.sample(0, 110);
+        due.is("days(3)", w.days(3), 1);
+        due.is("did(3, 0)", w.did(3, 0), 2);
+        due.is("did(3, 1)", w.did(3, 1), 2);
     }
 
     private static void others(Due due) {

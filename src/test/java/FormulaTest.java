@@ -73,12 +73,14 @@ public final class FormulaTest {
     }
 
     private static void deepest(Due due) {
-        String e = "9";
+        // as many values as can be wait for the last 2
+        String e = "0 or 1 < 0 + 2 * 2";
         for (int i = 0; i < 4; i++) {
-            e = "0 or 1 < 0 + 1 * ( " + e + " )";
+            e = "0 or 1 < 0 + 2 * ( " + e + " )";
         }
-        // within: 1 < 9 is 1; then 1 < 1 is 0, 1 < 0 is 0, 1 < 0 is 0
-        owes(due, e, 0);
+        owes(due, e, 1);
+        owes(due, e.replace("2 * 2", "0 * 2"), 0);
+        owes(due, e.replace("2 * 2", "2 * beats"), 0);
         owes(due, "1 + 2 * ( 3 + 4 * ( 5 + 6 * ( 7 + 8 * ( 9 ) ) ) )", 1 + 2 * (3 + 4 * (5 + 6 * (7 + 8 * 9))));
         StringBuilder longest = new StringBuilder("1");
         for (int i = 0; i < 400; i++) {

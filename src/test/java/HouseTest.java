@@ -69,6 +69,7 @@ public final class HouseTest {
         due.faultyHouse(x, 1, "room ^stairs stairs 1 noise 1 base 1 ;");
         due.faultyHouse(x, 1, "room ^3 stairs 1 noise 1 base 1 ;");
         due.faultyHouse(x, 1, "room a ^noise 1 stairs 1 base 1 ;");
+        due.faultyHouse(x, 1, "room a ^1 noise 1 base 1 ;");
         due.faultyHouse(x, 1, "room a stairs ^x noise 1 base 1 ;");
         due.faultyHouse(x, 1, "room a stairs 1 noise 1 base 1 ^room");
         due.faultyHouse(x, 1, "room a stairs ^- 1 noise 1 base 1 ;");
@@ -151,6 +152,15 @@ public final class HouseTest {
         due.is("count(2)", x.count(2), 6);
         due.is("count(5)", x.count(5), 6);
         due.is("room(5, 3)", x.room(5, 3), 5);
+        for (int tenant = 0; tenant < 6; tenant++) {
+            due.is("match(" + tenant + ")", x.match(tenant), tenant);
+        }
+        x.minutes(1);
+        due.is("noon()", x.noon(), 0);
+        due.is("count(6)", x.count(6), 6);
+        due.is("tenant(5, 9)", x.tenant(5, 9), 1);
+        due.is("tenant(5, 4)", x.tenant(5, 4), PulseRent.NONE);
+        due.is("for good", x.move(5, 5), false);
         due.faultyHouse(x, 5, six + "^room");
         due.faultyHouse(x, 5, six + "^tenant ta");
         due.faultyHouse(x, 5, six + "^errand !");
@@ -191,6 +201,8 @@ public final class HouseTest {
         x.minutes(3);
         x.noon();
         x.sample(0, 50);
+        x.move(1, 0);
+        x.minutes(1);
         x.mark(1, false);
         due.is("evicted", x.count(6), 1);
         due.is("house()", Due.house(x, TWO), 0);
@@ -200,10 +212,19 @@ public final class HouseTest {
         }
         for (int what = 5; what <= 9; what++) {
             due.is("anew: tenant(0, " + what + ")", x.tenant(0, what), 0);
+            due.is("anew: tenant(1, " + what + ")", x.tenant(1, what), 0);
         }
         due.is("anew: tenant(0, 4)", x.tenant(0, 4), 0);
         due.is("anew: owed(0) by beats + floor", x.owed(0), 1);
         due.is("anew: undo()", x.undo(), false);
         due.is("anew: mark(1, true)", x.mark(1, true), false);
+        // nothing of the first HOUSE is left in a third one, nor of one with a FAULT
+        Due.house(x, "due 7 ; wish 7 ; coffee 1 lasts 1 ; every 5 ; !");
+        due.is("house()", Due.house(x, TWO + "due 2 ; "), 0);
+        due.is("third: owed(0)", x.owed(0), 2);
+        due.is("third: every", x.count(8), 1);
+        due.is("third: coffee", x.count(7), 20);
+        x.drink(0);
+        due.is("third: lasts", x.tenant(0, 6), 30);
     }
 }

@@ -22,12 +22,24 @@ public final class MatchTest {
         }
     }
 
+    private static void rather(Due due, String rooms, String kind, int want) {
+        PulseRent x = Due.housed(rooms + "tenant t " + kind + " rest 50 calm 0 coins 0 ;");
+        due.is(rooms + kind, x.match(0), want);
+    }
+
     private static void untold(Due due) {
         PulseRent x = Due.housed(HOUSE);
         matched(due, x, 2, NONE, 0, 1);
         due.is("match(4)", x.match(4), -2);
         due.is("match(-1)", x.match(-1), -2);
         due.is("nobody moves", x.tenant(0, 4), 0);
+        // a noise of 5 is as bad as 15 stairs and as 15 of base; of equal ones the first
+        rather(due, "room a stairs 0 noise 5 base 0 ; room b stairs 15 noise 0 base 0 ; ", "plain", 0);
+        rather(due, "room a stairs 0 noise 5 base 0 ; room b stairs 14 noise 0 base 0 ; ", "plain", 1);
+        rather(due, "room a stairs 0 noise 5 base 0 ; room b stairs 0 noise 0 base 15 ; ", "sick", 0);
+        rather(due, "room a stairs 0 noise 5 base 0 ; room b stairs 0 noise 0 base 14 ; ", "monk", 1);
+        rather(due, "room a stairs 0 noise 5 base 0 ; room b stairs 60 noise 0 base 14 ; ", "runner", 1);
+        rather(due, "room a stairs 0 noise 5 base 0 ; room b stairs 60 noise 0 base 15 ; ", "runner", 0);
         PulseRent none = Due.housed("tenant ann plain rest 60 calm 10 coins 700 ;");
         matched(due, none, NONE, -2);
     }

@@ -26,6 +26,10 @@ public final class MonthsTest {
         due.faultyMonths(x, 5, "noon;".repeat(30) + "^climb zz");
         due.faultyMonths(x, 1, "noon;".repeat(30) + "^room");
         due.is("they stay with a FAULT", x.count(9), 30);
+        due.is("2 lines", Due.months(x, "climb bob ; noon ;"), 0);
+        due.faultyMonths(x, 1, "noon ; noon ; noon ; ^!");
+        due.is("count(9)", x.count(9), 2);
+        due.is("line 0 can't be", x.judged(0), 0);
         due.is("none is MONTHS", Due.months(x, ""), 0);
         due.is("count(9)", x.count(9), 0);
     }

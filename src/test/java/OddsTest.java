@@ -53,6 +53,9 @@ public final class OddsTest {
         due.is("a calm one", x.haunt(0, 1, 10, 0), 12 * 62);
         due.is("the least minutes of equal ones", x.haunt(0, 3, 10, 1), 7);
         due.is("nobody is frightened", x.tenant(0, 7), 0);
+        PulseRent one = Due.housed("room r stairs 0 noise 0 base 0 ; tenant t plain rest 60 calm 0 coins 0 in r ; ");
+        due.is("a fright of 1", one.haunt(0, 1, 1, 0), 12 * 60 + 1);
+        due.is("a fright of 99", one.haunt(0, 1, 99, 0), 12 * 60 + 99 + 49 + 24 + 12 + 6 + 3 + 1);
         PulseRent monk = alone("monk", "");
         due.is("a monk: 40 + 10 + 2", monk.haunt(0, 1, 50, 0), 12 * 62 + 52);
     }

@@ -145,6 +145,8 @@ public final class UndoTest {
         x.mark(1, true);
         due.is("1", x.tenant(0, 5), 40);
         due.is("a SAMPLE", x.count(10), 1);
+        due.is("that of minute 0, 60", x.days(0), 243);
+        due.is("ann did nothing", x.did(0, 0), 0);
         x.mark(0, true);
         due.is("0 again", x.tenant(2, 5), 0);
         x.climb(0);

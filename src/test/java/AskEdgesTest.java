@@ -21,6 +21,7 @@ public final class AskEdgesTest {
         errandsWhat(due);
         errandsBegin(due);
         errandsStir(due);
+        errandsAtRest(due);
         match(due);
         matchEquals(due);
         spare(due);
@@ -271,6 +272,31 @@ public final class AskEdgesTest {
         due.is("stirred and adds", most.errands(0, 0), 40 * 60 + 40 * 60 + 60 + 30 + 15 + 7 + 3 + 1);
     }
 
+    private static void errandsAtRest(Due due) {
+        due.of("ERRANDS by one at rest (all else aside), from minute 0: an order of all of them");
+        PulseRent x = Due.housed("room r stairs 60 noise 20 base 0 ; room s stairs 0 noise 0 base 0 ; tenant t plain rest 40 calm 0"
+                + " coins 0 in r ; tenant u plain rest 40 calm 0 coins 0 in s ; loves t u ; errand a opens 9 takes 2 adds 5 ; every 30 ;");
+        int want = 11 * 40 + 2 * 5;
+        due.is("noise, love and every are aside", x.errands(0, 0), want);
+        x.climb(0);
+        x.fright(0, 99);
+        x.drink(0);
+        due.is("so is what STIRS, COFFEE and HABIT", x.errands(0, 0), want);
+        x.minutes(7);
+        due.is("from minute 0, not from now", x.errands(0, 0), want);
+        due.of("in its minutes adds STIRS besides; beats are his rest (a sick one's 20 more), what STIRS him and adds, in each"
+                + " minute till the last one is done");
+        int[] takes = {1, 2, 19, 20};
+        int[] adds = {0, 1, 59, 60};
+        for (int many : takes) {
+            for (int more : adds) {
+                String errand = "errand a opens 3 takes " + many + " adds " + more + " ;";
+                due.is("plain: " + errand, walker("plain", errand).errands(0, 0), 3 * 40 + many * (40 + more));
+                due.is("sick: " + errand, walker("sick", errand).errands(0, 0), 3 * 60 + many * (60 + more));
+            }
+        }
+    }
+
     private static void match(Due due) {
         due.of("MATCH: his ROOM (NONE: none, EVICTED); -2: others.");
         PulseRent x = after();
@@ -357,6 +383,7 @@ public final class AskEdgesTest {
             due.is(n + " of 9 are counted", x.sampled(9, 9, n, 0), can ? 1000000 : NONE);
             due.is(n + " or more of 9", x.sampled(9, 9, 9, n), can ? 1000000 : NONE);
         }
+        due.of("SAMPLED; NONE: others.");
         due.is("times up to those counted", x.sampled(9, 9, 4, 4), 1000000);
         due.is("not beyond", x.sampled(9, 9, 4, 5), NONE);
         due.is("none counted", x.sampled(9, 9, 0, 0), 1000000);

@@ -93,6 +93,13 @@ public final class HouseEdgesTest {
         due.of("(TENANTS, 1 to 99 beats; 1 to 120; a TENANT to a ROOM)");
         within(due, true, "fright tt ", " ;", 1, 99);
         within(due, true, "minutes ", " ;", 1, 120);
+        due.of("4 a NUMBER that is not as told");
+        PulseRent wrong = new PulseRent();
+        due.faultyHouse(wrong, 4, "every ^0 ; every 1 ;");
+        due.faultyHouse(wrong, 4, "every ^0031 ;");
+        due.faultyHouse(wrong, 4, "coffee ^61lasts 1 ;");
+        due.faultyHouse(wrong, 4, "coffee ^61");
+        due.is("told with zeros ahead", Due.house(wrong, "every 0030 ; coffee 0060 lasts 0120 ;"), 0);
         due.of("PART: a NUMBER, a fact, not PART, ( E )");
         PulseRent x = new PulseRent();
         due.is("any NUMBER in an E", Due.house(x, "due 0 + 9999 + 0000 ; wish 9999 * 0 ;"), 0);
@@ -303,6 +310,7 @@ public final class HouseEdgesTest {
 
     private static void alike(Due due) {
         due.of("no two (ROOMS, TENANTS, errands) are alike");
+        due.of("3 a NAME told already");
         String[] before = {"room ", "tenant ", "errand "};
         String[] behind = {" stairs 0 noise 0 base 0 ; ", " plain rest 40 calm 0 coins 0 ; ", " opens 0 takes 1 adds 0 ; "};
         PulseRent x = new PulseRent();

@@ -20,6 +20,7 @@ public final class LawEdgesTest {
         lawInPlace(due);
         yearsBounds(due);
         yearsDraws(due);
+        yearsDeeds(due);
         yearsFromNow(due);
         yearsPaid(due);
         whichMarks(due);
@@ -242,6 +243,34 @@ public final class LawEdgesTest {
         }
     }
 
+    private static void yearsDeeds(Due due) {
+        due.of("each time for each TENANT who is in, by numbers, a DRAW below 6: 0 CLIMB, 1 a FRIGHT of 30, 2 DRINK, else nothing;"
+                + " then 10 MINUTES, then NOON");
+        String told = HOUSE.replace("coins 0 ", "coins 900 ") + "coffee 9 lasts 12 ; ";
+        for (int seed = 0; seed < 300; seed++) {
+            PulseRent x = Due.housed(told);
+            PulseRent y = Due.housed(told);
+            long g = seed;
+            int paid = 0;
+            for (int noon = 0; noon < 3; noon++) {
+                for (int tenant = 0; tenant < 4; tenant++) {
+                    // who is out, bob at first, has no DRAW
+                    if (y.tenant(tenant, 4) != NONE) {
+                        g = (g * 1103515245L + 12345L) % 2147483648L;
+                        int draw = (int) (g / 65536L % 6L);
+                        boolean done = draw == 0 ? y.climb(tenant) >= 0 : draw == 1 ? y.fright(tenant, 30) >= 0
+                                : draw != 2 || y.drink(tenant);
+                        due.is("done", done, true);
+                    }
+                }
+                y.minutes(10);
+                paid += y.noon();
+            }
+            due.is("years(" + seed + ", 3, 0)", x.years(seed, 3, 0), paid);
+            due.is("years(" + seed + ", 3, 1)", x.years(seed, 3, 1), y.count(5));
+        }
+    }
+
     private static void yearsFromNow(Due due) {
         due.of("from now on (all is as ahead then)");
         PulseRent x = Due.housed(HOUSE + "every 7 ; ");
@@ -401,6 +430,8 @@ public final class LawEdgesTest {
         for (int what = -3; what < 20; what++) {
             due.is("count(" + what + ")", x.count(what), what >= 0 && what < 13 ? want[what] : NONE);
         }
+        due.of("The constants: `NONE = -1`: None.");
+        due.is("NONE", PulseRent.NONE, -1);
         due.is("count of the greatest", x.count(Integer.MAX_VALUE), NONE);
         due.is("count of the least", x.count(Integer.MIN_VALUE), NONE);
     }

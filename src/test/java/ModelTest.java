@@ -33,7 +33,7 @@ public final class ModelTest {
             if (random.nextInt(60) == 0 && calls < 300) {
                 tell();
             }
-            int call = random.nextInt(24);
+            int call = random.nextInt(25);
             if (call < 12) {
                 act(call);
             } else {
@@ -156,6 +156,7 @@ public final class ModelTest {
             case 18: case 19: askHaunt(t); break;
             case 20: askLease(t, other); break;
             case 21: case 22: askLaw(); break;
+            case 23: askJudged(); break;
             default: askYears();
         }
     }
@@ -239,6 +240,70 @@ public final class ModelTest {
             want |= m.in(t) && trial.evicted[t] ? 1 << t : 0;
         }
         is("law(" + coffee + ", " + minutes + ")", x.law(coffee, minutes), want);
+    }
+
+    /** Tells MONTHS, doing each line by the model from the begin on. */
+    private void askJudged() {
+        PlainModel trial = m.copy();
+        trial.begin();
+        int[] want = {NONE, NONE, 0};
+        int lines = random.nextInt(calls < 300 ? 31 : 5);
+        StringBuilder text = new StringBuilder();
+        for (int line = 0; line < lines; line++) {
+            boolean can = drawLine(trial, text);
+            want[0] = !can && want[0] == NONE ? line : want[0];
+            want[2] = 0;
+            for (boolean gone : trial.evicted) {
+                want[2] += gone ? 1 : 0;
+            }
+            want[1] = want[2] > 0 && want[1] == NONE ? line : want[1];
+        }
+        Due.feed(x, text.toString());
+        calls += (text.length() + 23) / 24;
+        is("months() of " + text, x.months(), 0);
+        is("count(9)", x.count(9), lines);
+        for (int what = 0; what < 3; what++) {
+            is("judged(" + what + ") of " + text, x.judged(what), want[what]);
+        }
+    }
+
+    private boolean drawLine(PlainModel trial, StringBuilder text) {
+        int t = random.nextInt(m.people.length);
+        int room = random.nextInt(m.rooms.length);
+        int many = 1 + random.nextInt(random.nextBoolean() ? 6 : 99);
+        boolean in = trial.in(t);
+        String name = " t" + (char) ('a' + t);
+        switch (random.nextInt(6)) {
+            case 0:
+                text.append("climb").append(name).append(';');
+                if (in) {
+                    trial.climb(t);
+                }
+                return in;
+            case 1:
+                text.append("fright").append(name).append(' ').append(many).append(';');
+                if (in) {
+                    trial.fright(t, many);
+                }
+                return in;
+            case 2:
+                text.append("drink").append(name).append(';');
+                trial.cups[t] = in ? trial.lasts : trial.cups[t];
+                return in;
+            case 3:
+                text.append("move").append(name).append(" r").append((char) ('a' + room)).append(';');
+                boolean can = trial.canMove(t, room);
+                trial.where[t] = can ? room : trial.where[t];
+                return can;
+            case 4:
+                text.append("noon;");
+                trial.noon();
+                return true;
+            default:
+                text.append("minutes ").append(many).append(';');
+                trial.pass(many);
+                return true;
+        }
     }
 
     private void askYears() {

@@ -1166,6 +1166,8 @@ public final class PulseRent {
         private final int[] habit = new int[TABLE_MOST];
         private final int[] counted = new int[TABLE_MOST];
         private final int[] coins = new int[TABLE_MOST];
+        /** The steady beats of who is in; found anew whenever minutes pass, so never copied. */
+        private final int[] steady = new int[TABLE_MOST];
 
         State() {
             Arrays.fill(where, NONE);
@@ -1252,8 +1254,11 @@ public final class PulseRent {
             if (!isIn(tenant)) {
                 return NONE;
             }
-            int stirred = steadyBeats(house, tenant) + stir[tenant];
-            return Math.min(PULSE_MOST, stirred + (coffee[tenant] > 0 ? coffeeBeats : 0));
+            return pulseBy(steadyBeats(house, tenant), stir[tenant], coffee[tenant] > 0);
+        }
+
+        private int pulseBy(int steadily, int stirred, boolean hasCoffee) {
+            return Math.min(PULSE_MOST, steadily + stirred + (hasCoffee ? coffeeBeats : 0));
         }
 
         /** What of a PULSE stays alike from minute to minute while nobody comes or goes. */
@@ -1303,30 +1308,41 @@ public final class PulseRent {
 
         /** Lets minutes pass: how many beats are counted of all in them. */
         int passMinutes(House house, int many) {
+            for (int t = 0; t < TABLE_MOST; t++) {
+                steady[t] = isIn(t) ? steadyBeats(house, t) : 0;
+            }
             int beats = 0;
             for (int i = 0; i < many; i++) {
                 if (house.isCounted(minute)) {
-                    beats += countBeats(house);
+                    beats += countBeats(house.every);
                 }
-                for (int t = 0; t < TABLE_MOST; t++) {
-                    stir[t] = house.calmed(t, stir[t]);
-                    coffee[t] = Math.max(0, coffee[t] - 1);
-                }
+                calmDown(house);
                 minute++;
             }
             return beats;
         }
 
-        private int countBeats(House house) {
+        private int countBeats(int times) {
             int beats = 0;
             for (int t = 0; t < TABLE_MOST; t++) {
-                if (isIn(t)) {
-                    int more = pulseOf(house, t) * house.every;
+                if (where[t] != NONE) {
+                    int more = pulseBy(steady[t], stir[t], coffee[t] > 0) * times;
                     counted[t] += more;
                     beats += more;
                 }
             }
             return beats;
+        }
+
+        private void calmDown(House house) {
+            for (int t = 0; t < TABLE_MOST; t++) {
+                if (stir[t] > 0) {
+                    stir[t] = house.calmed(t, stir[t]);
+                }
+                if (coffee[t] > 0) {
+                    coffee[t]--;
+                }
+            }
         }
 
         int dueOf(House house, int tenant) {
@@ -1380,7 +1396,7 @@ public final class PulseRent {
             if (!isIn(tenant)) {
                 return NONE;
             }
-            int steady = steadyBeats(house, tenant);
+            int steadily = steadyBeats(house, tenant);
             int felt = stir[tenant];
             int frights = habit[tenant];
             int all = 0;
@@ -1390,8 +1406,7 @@ public final class PulseRent {
                     frights++;
                 }
                 if (house.isCounted(minute + i)) {
-                    int pulse = steady + felt + (coffee[tenant] > i ? coffeeBeats : 0);
-                    all += Math.min(PULSE_MOST, pulse) * house.every;
+                    all += pulseBy(steadily, felt, coffee[tenant] > i) * house.every;
                 }
                 felt = house.calmed(tenant, felt);
             }

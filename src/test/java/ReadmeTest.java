@@ -1,6 +1,7 @@
 import java.io.IOException;
 import java.lang.reflect.InvocationTargetException;
 import java.lang.reflect.Method;
+import java.lang.reflect.Modifier;
 import java.nio.file.Files;
 import java.nio.file.Path;
 import java.util.Set;
@@ -18,7 +19,7 @@ public final class ReadmeTest {
         String readme = Files.readString(Path.of("README.md"));
         Set<String> used = example(due, readme);
         for (Method m : PulseRent.class.getDeclaredMethods()) {
-            if (java.lang.reflect.Modifier.isPublic(m.getModifiers())) {
+            if (Modifier.isPublic(m.getModifiers())) {
                 due.is("the example uses " + m.getName(), used.contains(m.getName()), true);
                 due.is("the table has " + m.getName(), readme.contains("| `" + m.getName() + "("), true);
             }
